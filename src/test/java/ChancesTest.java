@@ -51,6 +51,7 @@ public final class ChancesTest {
         Due.due("duel(2): the second wants little", x.duel(2), 20);
         Due.due("aside", x.digest(), ahead);
         Due.due("best(3) is no less than duel(3)", x.best(3, 0) >= x.duel(3) ? 1 : 0, 1);
+        Due.due("duel(3): the first has the last turn", x.duel(3), thirdTurn(x));
         x = Due.bridgeOf("h400t99t99", 2);
         Due.due("one PAIR", x.duel(3), 36);
         Due.due("duel(4)", x.duel(4), BAD);
@@ -58,6 +59,25 @@ public final class ChancesTest {
         x = new BridgeAwake();
         Due.due("duel without PEOPLE", x.duel(0), STATE);
         Due.due("duel(4) without PEOPLE", x.duel(4), BAD);
+    }
+
+    /** By way of through(), of three PEOPLE: the most of the least of the most. */
+    private static int thirdTurn(BridgeAwake x) {
+        int[] watches = {1, 2, 12};
+        int most = -1;
+        for (int a : watches) {
+            int least = 61;
+            for (int b : watches) {
+                int last = -1;
+                for (int c : watches) {
+                    Due.rowOf(x, 4, a, b, c);
+                    last = Math.max(last, x.through(4));
+                }
+                least = Math.min(least, last);
+            }
+            most = Math.max(most, least);
+        }
+        return most;
     }
 
     private static void odds() {

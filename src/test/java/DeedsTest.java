@@ -179,6 +179,15 @@ public final class DeedsTest {
         Due.due("LOADS FELL", x.count(6), 0);
         Due.due("on(0)", x.on(0), 1);
         Due.due("kept", x.count(10), 2);
+        x.undo(0);
+        x.load(60);
+        x.watch(1, 2);
+        Due.due("on(2) behind other DEEDS", x.on(2), 3);
+        Due.due("undo(2): its own DEEDS", x.undo(2), 1);
+        Due.due("HOURS", x.count(1), 1);
+        Due.due("LOADS crossed", x.count(5), 1);
+        Due.told(x, "UP", x.one(0, 3), 1);
+        Due.told(x, "UP", x.one(1, 3), 1);
     }
 
     private static void keepRefused() {

@@ -22,6 +22,9 @@ public final class GuessTest {
         Due.rowOf(x, 0, 9);
         Due.share(x, "sagged by 9", x.sagged(0), 2, 1);
         Due.due("first WATCH", x.asked(), 3);
+        Due.rowOf(x, 0, 8);
+        Due.share(x, "sagged by 8", x.sagged(0), 2, 1);
+        Due.due("first WATCH", x.asked(), 13);
         Due.rowOf(x, 0, 60);
         Due.share(x, "sagged by 60", x.sagged(0), 0, 1);
         Due.due("no WATCH", x.asked(), NONE);
@@ -69,6 +72,9 @@ public final class GuessTest {
         Due.rowOf(x, 0, 60);
         Due.finds(x, "by no row", x.sure(0), NOUGHT);
         Due.due("asked() stays", x.asked(), 0);
+        Due.rowOf(x, 0, 10);
+        Due.due("by 10 again", x.sure(0), 1);
+        Due.due("by 10 again: 3 had none", x.asked(), 8);
         x = Due.bridgeOf("h400 t99 t49 t19", 3);
         Due.rowOf(x, 0, 33, 29);
         Due.due("by 33, 29: both", x.sure(0), 3);

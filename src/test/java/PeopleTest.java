@@ -112,6 +112,8 @@ public final class PeopleTest {
         Due.due("other PREACHER", x.mark(4, 4), 3);
         x = Due.bridgeOf("h000 p09 t49 q01", 2);
         Due.due("half of 1 is told of something above 0", x.mark(0, 4), 1);
+        x = Due.bridgeOf("h000 t39 t09 t19 p09", 4);
+        Due.due("with 0 and 2", x.mark(3, 4), 2);
     }
 
     private static void markRefused() {

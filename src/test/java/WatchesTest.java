@@ -28,6 +28,9 @@ public final class WatchesTest {
         Due.isRow(x, 1, 1, 23, 1);
         x.tear(1);
         Due.due("nothing else is changed", x.digest(), ahead);
+        x.load(60);
+        Due.due("best(1) behind a FALL", x.best(1, 1), 10);
+        Due.isRow(x, 1, 1);
         x = Due.bridgeOf("h400t00t00t00", 3);
         Due.due("the first of like ones", x.best(3, 5), 5);
         Due.isRow(x, 5, 1, 1, 1);
@@ -83,6 +86,11 @@ public final class WatchesTest {
         Due.due("when(31)", x.when(0, 31), NONE);
         Due.due("aside", x.digest(), ahead);
         Due.due("asked() stays", x.asked(), asked);
+        Due.rowOf(x, 0, 12, 2);
+        // 5 + 9 + 0 = 14; 7 + 9 + 0 = 16
+        Due.due("when(14)", x.when(0, 14), 1);
+        Due.due("when(16)", x.when(0, 16), 2);
+        Due.due("when(17)", x.when(0, 17), NONE);
         Due.rowOf(x, 0);
         Due.due("when(10) by none", x.when(0, 10), 0);
         Due.due("when(11) by none", x.when(0, 11), NONE);
@@ -106,6 +114,9 @@ public final class WatchesTest {
         Due.finds(x, "when by 21", x.when(0, 0), SIZE);
         int[] none = {0, 11, 10, 21, 3, 13, 23, -1, -12, 100, 101, Integer.MIN_VALUE, Integer.MAX_VALUE};
         for (int number : none) {
+            Due.rowOf(x, 0, number, 12);
+            Due.finds(x, "through " + number + " first", x.through(0), UNLIKE);
+            Due.finds(x, "when by " + number + " first", x.when(0, 0), UNLIKE);
             Due.rowOf(x, 0, 12, number);
             Due.finds(x, "through " + number, x.through(0), UNLIKE);
             Due.finds(x, "when by " + number, x.when(0, 0), UNLIKE);
@@ -137,6 +148,11 @@ public final class WatchesTest {
         Due.rowOf(x, 0, 0, 0, 0);
         Due.due("bear nothing", x.bear(0), 2);
         Due.due("who", x.asked(), 3);
+        x = Due.bridgeOf("h000 t59 t49 t69 t59 q02", 4);
+        // 01: 9, 02: 8, 03: 10, 12: 10, 13: 9, 23: 11: the first row is not the least number
+        Due.rowOf(x, 0, 10);
+        Due.due("bear 10", x.bear(0), 2);
+        Due.due("who: 1 and 2, not 0 and 3", x.asked(), 6);
     }
 
     private static void bearRefused() {
