@@ -276,6 +276,10 @@ final class ChanceBounds extends Bounds {
             bridgeOf(x, "h120t00t00t00", 3);
             due(x.lots(1, 2), 6);
             upNow(x, 0, 1, 1);
+            // of five: 6033 modulo 5 is 3; 754 modulo 4 is 2; 3 further on than 3 is 1
+            bridgeOf(x, "h120t00t00t00t00t00", 5);
+            due(x.lots(1, 1), 6);
+            upNow(x, 0, 1, 0, 1, 0);
             // of two always both
             bridgeOf(x, "h120t00t00", 2);
             due(x.lots(1, 1), 6);

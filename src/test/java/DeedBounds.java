@@ -160,6 +160,7 @@ final class DeedBounds extends Bounds {
             told(x, x.sagged(1), 45);
             rowOf(x, 2, 45);
             due(x.through(2), 18);
+            due(x.when(2, 18), 1);
             rowOf(x, 2, 1);
             due(x.through(2), 0);
             rowOf(x, 2, 54);
@@ -325,6 +326,12 @@ final class DeedBounds extends Bounds {
             refused(x, STATE, () -> x.coffee(0));
             due(x.undo(39), 1);
             refused(x, SPENT, () -> x.coffee(1));
+            bridgeOf(x, "h409t90t90", 2);
+            x.watch(0, 1);
+            loads(x, 38);
+            due(x.coffee(1), 8);
+            due(x.count(2), 40);
+            refused(x, FULL, () -> x.coffee(0));
         });
     }
 
@@ -358,6 +365,7 @@ final class DeedBounds extends Bounds {
                 due(x.digest(), digests[n]);
             }
             due(x.undo(0), 0);
+            undoneOfAll();
             // what a bound has cut comes back as it was
             watches(x, 40, 0, 1);
             told(x, x.one(0, 3), 30);
@@ -384,6 +392,28 @@ final class DeedBounds extends Bounds {
             refused(x, BAD, () -> x.undo(41));
             due(x.undo(0), 40);
         });
+    }
+
+    /** Whoever did them, the DEEDS that are not undone stay as they were done. */
+    private static void undoneOfAll() {
+        for (int i = 0; i < 6; i++) {
+            for (int j = 0; j < 6; j++) {
+                if (i == j) {
+                    continue;
+                }
+                BridgeAwake x = ready("h309t51b71l31c62p92w41q05q34", 6);
+                x.watch(i, j);
+                x.watch(j, i);
+                due(x.coffee(j), 8);
+                due(x.load(3) + x.load(60), 1);
+                x.watch(j, i);
+                long before = x.digest();
+                x.watch(0, 5);
+                due(x.load(0), 1);
+                due(x.undo(6), 2);
+                due(x.digest(), before);
+            }
+        }
     }
 
     private static void promise19() {

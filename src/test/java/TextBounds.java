@@ -170,6 +170,7 @@ final class TextBounds extends Bounds {
             for (char sign = 0; sign < 256; sign++) {
                 boolean figure = sign >= '0' && sign <= '9';
                 due(faultOf("h0" + sign + "0t12b34"), figure ? NONE : 2);
+                due(faultOf("h9" + sign + "0t12b34"), figure ? 1 : 2);
                 due(faultOf("h00" + sign + "t12b34"), figure ? NONE : 3);
                 due(faultOf("h000t" + sign + "2b34"), figure ? NONE : 5);
                 due(faultOf("h000t1" + sign + "b34"), figure ? NONE : 6);
@@ -220,6 +221,7 @@ final class TextBounds extends Bounds {
         terms("10", "the TEXT's size, if its end comes too early,", x -> {
             due(faultOf("h"), 1);
             due(faultOf("h4"), 2);
+            due(faultOf("h5"), 2);
             due(faultOf("h40"), 3);
             due(faultOf("   h40"), 6);
             due(faultOf("h409t"), 5);

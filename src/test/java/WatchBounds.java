@@ -176,6 +176,10 @@ final class WatchBounds extends Bounds {
             // none of the 21 is a PAIR
             finds(x, SIZE, () -> x.through(0));
             finds(x, UNLIKE, () -> x.through(1));
+            due(x.tear(0), 1);
+            due(x.tear(1), 1);
+            finds(x, NOTHING, () -> x.through(0));
+            finds(x, NOTHING, () -> x.through(1));
         });
     }
 
@@ -254,6 +258,10 @@ final class WatchBounds extends Bounds {
             finds(x, NOTHING, () -> x.when(2, 60));
             finds(x, SIZE, () -> x.when(0, 0));
             finds(x, UNLIKE, () -> x.when(1, 0));
+            due(x.tear(0), 1);
+            due(x.tear(1), 1);
+            finds(x, NOTHING, () -> x.when(0, 0));
+            finds(x, NOTHING, () -> x.when(1, 0));
         });
     }
 
@@ -278,6 +286,9 @@ final class WatchBounds extends Bounds {
             bears(x, 4, 15, 6, 9);
             bears(x, 4, 15, 6, 9, 10);
             due(x.count(2), 0);
+            BridgeAwake y = ready("h000t30t39t39", 3);
+            // 01, 12 as well as 12, 12, but not 01, 01
+            bears(y, 2, 6, 6, 9);
             due(x.load(60), 0);
             bears(x, 2, 3, 6);
             rowOf(x, 0, 60);
@@ -354,6 +365,10 @@ final class WatchBounds extends Bounds {
             finds(x, NOTHING, () -> x.bear(2));
             finds(x, SIZE, () -> x.bear(0));
             finds(x, UNLIKE, () -> x.bear(1));
+            due(x.tear(0), 1);
+            due(x.tear(1), 1);
+            finds(x, NOTHING, () -> x.bear(0));
+            finds(x, NOTHING, () -> x.bear(1));
         });
     }
 
@@ -516,6 +531,10 @@ final class WatchBounds extends Bounds {
             finds(x, UNLIKE, () -> x.sure(1));
             rowOf(x, 1, 60, 60);
             finds(x, NOUGHT, () -> x.sure(1));
+            due(x.tear(0), 1);
+            due(x.tear(1), 1);
+            finds(x, NOTHING, () -> x.sure(0));
+            finds(x, NOTHING, () -> x.sure(1));
         });
     }
 }

@@ -111,6 +111,11 @@ final class WhoBounds extends Bounds {
             finds(x, SIZE, () -> x.lasts(0, 0));
             rowOf(x, 0, 31, 0, 0);
             finds(x, UNLIKE, () -> x.lasts(0, 0));
+            due(x.tear(0), 1);
+            finds(x, NOTHING, () -> x.lasts(0, 0));
+            due(x.row(0, 1), 1);
+            due(x.tear(0), 1);
+            finds(x, NOTHING, () -> x.lasts(0, 0));
         });
     }
 
@@ -167,6 +172,11 @@ final class WhoBounds extends Bounds {
             finds(x, SIZE, () -> x.kinds(0, 0));
             rowOf(x, 0, 0, 0, 16);
             finds(x, UNLIKE, () -> x.kinds(0, 0));
+            due(x.tear(0), 1);
+            finds(x, NOTHING, () -> x.kinds(0, 0));
+            due(x.row(0, 1), 1);
+            due(x.tear(0), 1);
+            finds(x, NOTHING, () -> x.kinds(0, 0));
             due(x.row(0, 0), 0);
             due(x.kinds(0, 0), 63);
         });
@@ -197,7 +207,9 @@ final class WhoBounds extends Bounds {
             tells(x, 2, 0, 3);
             // 3: 1, 0, 3, 4, 0, 3; the BORE and the PREACHER, the LOVER and the WIDOWER are alike
             tells(x, 3, 0, 2);
+            tells(x, 0, 0, 1, 0, 0, 6);
             tells(x, 0, 0, 1, 0, 5, 3);
+            tells(x, 0, 0, 1, 0, 5, 2);
             tells(x, 0, 0, 1, 0, 2, 9);
         });
     }
@@ -245,6 +257,11 @@ final class WhoBounds extends Bounds {
             finds(x, SIZE, () -> x.test(0, 0));
             rowOf(x, 0, 0, 12, 0);
             finds(x, UNLIKE, () -> x.test(0, 0));
+            due(x.tear(0), 1);
+            finds(x, NOTHING, () -> x.test(0, 0));
+            due(x.row(0, 1), 1);
+            due(x.tear(0), 1);
+            finds(x, NOTHING, () -> x.test(0, 0));
             due(x.row(0, 0), 0);
             due(x.test(0, 0), 0);
         });
